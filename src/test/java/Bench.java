@@ -1,6 +1,7 @@
 import java.io.ByteArrayOutputStream;
 import java.nio.charset.StandardCharsets;
 import java.util.Arrays;
+import java.util.Random;
 
 /** What the tests share: rows of bytes, feeding them, and telling what is not as due. */
 final class Bench {
@@ -124,6 +125,27 @@ final class Bench {
 
     static byte[] entry(byte[] name, int type, int kind, int time, byte[] data) {
         return all(name, two(type), two(kind), four(time), two(data.length), data);
+    }
+
+    /**
+     * A message with data whose bytes make, from each of many places, another name with an end of its own: the owners
+     * of its records point at them, so that it is some ten times as long when it is written again.
+     */
+    static byte[] growing(int segments, int names) {
+        Random random = new Random(11);
+        byte[] blob = {};
+        for (int k = 0; k < segments; k++) {
+            for (int i = 0; i < 180; i++) {
+                blob = all(blob, bytes(45 + random.nextInt(19)));
+            }
+            blob = all(blob, filled(64, 0));
+        }
+        byte[] row = entry(bytes(0), 99, 1, 1, blob);
+        for (int k = 0; k < names; k++) {
+            int place = 23 + k % segments * 244 + k / segments;
+            row = all(row, entry(pointer(place), 99, 1, 1, bytes()));
+        }
+        return all(head(0, 0, 0, names + 1, 0, 0), row);
     }
 
     /** Makes the tape, empty before, these bytes. */

@@ -1,5 +1,4 @@
 import java.util.Arrays;
-import java.util.Random;
 
 /** Readings (promises 4, 5 and 17) with each fault and where it is told, and the edges behind which there is none. */
 public final class ReadingTest {
@@ -280,27 +279,12 @@ public final class ReadingTest {
         Bench.due("the root asked for", Bench.ask(y, Bench.bytes(0), 1, 1), 2);
     }
 
-    /**
-     * Names that stand across one another in data, so that few bytes make many names with ends of their own: a
-     * message of more than 65,000 bytes is written from some 6,000, and is the tape then.
-     */
+    /** A long message is written, and is the tape then; the feeds behind it are more calls than an object is used for. */
     private static void longestTape() {
-        Random random = new Random(5);
-        byte[] blob = {};
-        for (int k = 0; k < 7; k++) {
-            for (int i = 0; i < 180; i++) {
-                blob = Bench.all(blob, Bench.bytes(45 + random.nextInt(19)));
-            }
-            blob = Bench.all(blob, Bench.filled(64, 0));
-        }
-        byte[] row = Bench.entry(Bench.bytes(0), 99, 1, 1, blob);
-        for (int k = 0; k < 345; k++) {
-            row = Bench.all(row, Bench.entry(Bench.pointer(23 + k / 50 * 244 + k % 50), 99, 1, 1, Bench.bytes()));
-        }
-        row = Bench.all(Bench.head(0, 0, 0, 346, 0, 0), row);
+        byte[] row = Bench.growing(7, 350);
         WireMessages x = readDue("names across one another", row, 0, -1);
         int length = x.write(65_535);
-        if (length < 60_000) {
+        if (length < 50_000) {
             Bench.tell("the message is too short for this test: " + length);
         }
         Bench.due("back", x.back(-1, 0), length);
@@ -313,6 +297,6 @@ public final class ReadingTest {
         Bench.due("2: the tape after", x.count(0), fed);
         Bench.due("3: end", x.end(length), length);
         Bench.due("read of the long one", x.read(), 0);
-        Bench.due("records", x.header(3), 346);
+        Bench.due("records", x.header(3), 351);
     }
 }

@@ -1,5 +1,4 @@
 import java.util.Arrays;
-import java.util.Random;
 
 /** Writings (promises 9, 11 and 17): names that share their ends, and the limit. */
 public final class WritingTest {
@@ -23,6 +22,7 @@ public final class WritingTest {
         everyLimit();
         highestPlace();
         longMessage();
+        manyLabels();
         Bench.finish();
     }
 
@@ -65,9 +65,16 @@ public final class WritingTest {
         // The bytes of a.b stand in this label, but not as the end of a name.
         Bench.add(x, 1, Bench.bytes(5, 1, 'z', 1, 'b', 0, 0), 1, FOUR);
         Bench.add(x, 1, Bench.name("z.b"), 1, FOUR);
-        writeDue("byte for byte", x, 512, 3, Bench.head(0, 0, 1, 5, 0, 0), Bench.asked(Bench.name("a.b"), 1, 1),
+        // These two labels have the same mark in the table of ends.
+        Bench.add(x, 1, Bench.name("aA.b"), 1, FOUR);
+        Bench.add(x, 1, Bench.name("BB.b"), 1, FOUR);
+        Bench.add(x, 1, Bench.name("aA.b"), 1, FOUR);
+        Bench.add(x, 1, Bench.name("BB.b"), 1, FOUR);
+        writeDue("byte for byte", x, 512, 7, Bench.head(0, 0, 1, 9, 0, 0), Bench.asked(Bench.name("a.b"), 1, 1),
                 a(Bench.all(Bench.label("A"), Bench.pointer(14))), a(Bench.name("a.B")), a(Bench.pointer(21)),
-                a(Bench.bytes(5, 1, 'z', 1, 'b', 0, 0)), a(Bench.all(Bench.label("z"), Bench.pointer(14))));
+                a(Bench.bytes(5, 1, 'z', 1, 'b', 0, 0)), a(Bench.all(Bench.label("z"), Bench.pointer(14))),
+                a(Bench.all(Bench.label("aA"), Bench.pointer(14))), a(Bench.all(Bench.label("BB"), Bench.pointer(14))),
+                a(Bench.pointer(113)), a(Bench.pointer(132)));
     }
 
     private static void namesInData() {
@@ -230,28 +237,10 @@ public final class WritingTest {
         model.end(row.length);
     }
 
-    /** Data whose bytes make, from each of many places, another name: a short message that is a long one when written. */
-    private static byte[] growing(int segments, int names) {
-        Random random = new Random(11);
-        byte[] blob = {};
-        for (int k = 0; k < segments; k++) {
-            for (int i = 0; i < 180; i++) {
-                blob = Bench.all(blob, Bench.bytes(45 + random.nextInt(19)));
-            }
-            blob = Bench.all(blob, Bench.filled(64, 0));
-        }
-        byte[] row = Bench.entry(ROOT, 99, 1, 1, blob);
-        for (int k = 0; k < names; k++) {
-            int place = 23 + k % segments * 244 + k / segments;
-            row = Bench.all(row, Bench.entry(Bench.pointer(place), 99, 1, 1, Bench.bytes()));
-        }
-        return Bench.all(Bench.head(0, 0, 0, names + 1, 0, 0), row);
-    }
-
     private static void highestPlace() {
         for (int place : new int[] {16_382, 16_383, 16_384}) {
             WireMessages x = new WireMessages();
-            Bench.lay(x, growing(3, 80));
+            Bench.lay(x, Bench.growing(3, 80));
             Bench.due("growing", x.read(), 0);
             int length = x.write(65_535);
             Bench.add(x, 1, ROOT, 99, new byte[place - length - 11]);
@@ -273,7 +262,7 @@ public final class WritingTest {
 
     /** Each new object is looked at for so many bytes as its calls allow. */
     private static void longMessage() {
-        byte[] row = growing(7, 330);
+        byte[] row = Bench.growing(7, 330);
         Model model = new Model();
         layBoth(new WireMessages(), model, row);
         model.read();
@@ -290,5 +279,18 @@ public final class WritingTest {
                 Bench.due("pointers of a long message", x.count(2), model.count(2));
             }
         }
+    }
+
+    private static void manyLabels() {
+        WireMessages x = new WireMessages();
+        byte[] most = Bench.all(Bench.labels("a.".repeat(127)), ROOT);
+        byte[] other = Bench.all(Bench.label("b"), Bench.labels("a.".repeat(126)), ROOT);
+        Bench.ask(x, most, 1, 1);
+        Bench.ask(x, other, 1, 1);
+        Bench.ask(x, most, 1, 1);
+        writeDue("127 labels", x, 512, 2, Bench.head(0, 0, 3, 0, 0, 0), Bench.asked(most, 1, 1),
+                Bench.asked(Bench.all(Bench.label("b"), Bench.pointer(14)), 1, 1), Bench.asked(Bench.pointer(12), 1, 1));
+        Bench.due("127 labels: order", x.order(0, 0, 0, 1), -1);
+        Bench.due("127 labels: same", x.same(0, 0, 0, 2) ? 1 : 0, 1);
     }
 }
