@@ -359,7 +359,7 @@ public final class WireMessages {
             return section == QUESTIONS ? sizes[QUESTIONS] < MOST_QUESTIONS : records() < MOST_RECORDS;
         }
 
-        /** Keeps the bytes from that place on, name and data, as a question or record; takes them back if they are too many. */
+        /** Keeps the bytes from there on, name and data, as a question or record; takes them back if it is too much. */
         private boolean keep(int section, int from, int nameLength, int type, int kind, int time) {
             if (bytes.length > MOST_BYTES || !hasPlaceIn(section)) {
                 bytes.length = from;
@@ -488,7 +488,8 @@ public final class WireMessages {
                 return false;
             }
             next = behind;
-            boolean kept = gathered.keep(section, from, ownerLength, type, tape.twoAt(fixed + 2), tape.fourAt(fixed + 4));
+            int kind = tape.twoAt(fixed + 2);
+            boolean kept = gathered.keep(section, from, ownerLength, type, kind, tape.fourAt(fixed + 4));
             return kept || fail(FAULT_MUCH, start);
         }
 
@@ -628,6 +629,7 @@ public final class WireMessages {
                     return false;
                 }
             }
+            // Told only now, because faults 1 to 4 of the name come first.
             boolean pointsInVain = followed > followedBefore && !Kinds.sharesNames(type);
             if (pointsInVain || next + behind != to) {
                 return fail(FAULT_DATA, from);
