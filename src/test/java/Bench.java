@@ -4,14 +4,21 @@ import java.util.Arrays;
 import java.util.Random;
 
 /** What the tests share: rows of bytes, feeding them, and telling what is not as due. */
-final class Bench {
+abstract class Bench {
+    static final byte[] ROOT = bytes(0);
     private static int wrong = 0;
+    private static String sentence = "";
 
     interface Call {
         long answer();
     }
 
-    private Bench() {
+    Bench() {
+    }
+
+    /** The document's sentence that the next answers are due by; it is told with each wrong one. */
+    static void by(String words) {
+        sentence = words;
     }
 
     static void due(String what, long got, long want) {
@@ -38,7 +45,7 @@ final class Bench {
 
     static void tell(String what) {
         wrong++;
-        System.out.println(what);
+        System.out.println((sentence.isEmpty() ? "" : "[" + sentence + "] ") + what);
     }
 
     static void finish() {
@@ -146,6 +153,49 @@ final class Bench {
             row = all(row, entry(pointer(place), 99, 1, 1, bytes()));
         }
         return all(head(0, 0, 0, names + 1, 0, 0), row);
+    }
+
+    /**
+     * A message whose records' names are pointers into data, each to another name of 249 bytes that shares no end with
+     * the others: written again it has {@link #wideLength} bytes. The first byte is 0, so it is also the root and data.
+     */
+    static byte[] wide(int names, int lastData) {
+        byte[] blob = manyNames((names + 30) / 31);
+        byte[] row = new byte[names * 12];
+        for (int k = 0; k < names; k++) {
+            byte[] one = entry(pointer(23 + k / 31 * 310 + k % 31 * 2), 99, 1, 1, bytes());
+            System.arraycopy(one, 0, row, 12 * k, 12);
+        }
+        return all(head(0, 0, 0, names + 2, 0, 0), entry(ROOT, 99, 1, 1, blob), row,
+                entry(ROOT, 99, 1, 1, filled(lastData, 1)));
+    }
+
+    static int wideLength(int names, int lastData) {
+        return 12 + 11 + (names + 30) / 31 * 310 + 259 * names + 11 + lastData;
+    }
+
+    /** Blocks of 310 bytes, a name of four labels from each of the first 31 even places on; odd places make them differ. */
+    private static byte[] manyNames(int blocks) {
+        byte[] row = new byte[blocks * 310];
+        new Random(7).nextBytes(row);
+        for (int i = 0; i < row.length; i += 2) {
+            row[i] = (byte) (i % 310 < 248 ? 61 : 0);
+        }
+        return row;
+    }
+
+    /** Reads these bytes with a new object: the fault and its place that are due. */
+    static WireMessages readDue(String what, byte[] row, int fault, int place) {
+        WireMessages x = new WireMessages();
+        lay(x, row);
+        due(what + ": read()", x.read(), fault);
+        due(what + ": faultAt()", x.faultAt(), place);
+        due(what + ": the tape", x.count(0), 0);
+        return x;
+    }
+
+    static WireMessages readGood(String what, byte[] row) {
+        return readDue(what, row, 0, -1);
     }
 
     /** Makes the tape, empty before, these bytes. */
