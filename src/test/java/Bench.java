@@ -174,7 +174,7 @@ abstract class Bench {
         return 12 + 11 + (names + 30) / 31 * 310 + 259 * names + 11 + lastData;
     }
 
-    /** Blocks of 310 bytes, a name of four labels from each of the first 31 even places on; odd places make them differ. */
+    /** Blocks of 310 bytes: from each of the first 31 even places on there is a name; odd places make them differ. */
     private static byte[] manyNames(int blocks) {
         byte[] row = new byte[blocks * 310];
         new Random(7).nextBytes(row);

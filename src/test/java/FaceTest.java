@@ -71,7 +71,8 @@ public final class FaceTest {
         }
         for (Method method : WireMessages.class.getDeclaredMethods()) {
             boolean isPrivate = Modifier.isPrivate(method.getModifiers());
-            if (!isPrivate && !Modifier.isPublic(method.getModifiers()) || isPrivate && names.contains(method.getName())) {
+            boolean isPublic = Modifier.isPublic(method.getModifiers());
+            if (!isPrivate && !isPublic || isPrivate && names.contains(method.getName())) {
                 Bench.tell("beside the face there is " + method);
             }
         }

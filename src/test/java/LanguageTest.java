@@ -19,7 +19,7 @@ public final class LanguageTest extends Bench {
     private static final Path FILE = Path.of("src/main/java/WireMessages.java");
     private static final String[] FORBIDDEN = {"->", "::", "\\bfinally\\b", "\\bsynchronized\\b", "\\bassert\\b",
         "\\bprotected\\b", "\\bSystem\\.(?!arraycopy\\b)", "\\bThread\\b", "\\bRandom\\b", "\\bgetMessage\\b",
-        "\\bwhile \\(true\\)", "\\w*Exact\\(", "\\bvar\\b", "\\bObject\\b", "static \\{", "\\bnative\\b", "\\btransient\\b"};
+        "\\bwhile \\(true\\)", "\\w*Exact\\(", "\\bvar\\b", "\\bObject\\b", "static \\{", "\\bnative\\b"};
     private static final Set<String> THROWN = Set.of("IllegalStateException", "IllegalArgumentException",
             "IndexOutOfBoundsException", "UnsupportedOperationException", "NoSuchElementException");
     private static final int MOST_LINES = 60;
@@ -115,13 +115,13 @@ public final class LanguageTest extends Bench {
         Matcher thrown = Pattern.compile("\\bthrow\\b([^;]*);").matcher(text);
         while (thrown.find()) {
             String made = thrown.group(1).trim();
-            if (!made.startsWith("new ") || !made.endsWith("()") || !THROWN.contains(made.substring(4, made.length() - 2))) {
+            if (!made.matches("new \\w+\\(\\)") || !THROWN.contains(made.substring(4, made.length() - 2))) {
                 tell("the file throws " + made);
             }
         }
     }
 
-    /** A method begins with a line that ends with a brace behind its parameters, and ends with a brace as far to the left. */
+    /** A method begins with private or public and a parenthesis, and ends with a brace as far to the left. */
     private static void methodLengths(List<String> lines) {
         by("rule 11: methods stay short (some sixty lines)");
         Pattern start = Pattern.compile("( +)(private|public)\\b[^=]*\\([^=]*(\\{|,|\\))");

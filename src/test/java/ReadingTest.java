@@ -213,7 +213,7 @@ public final class ReadingTest extends Bench {
             readDue("to its name in data of " + type, rooted(type, all(before, pointer(start))), 3, start);
             byte[] behindLabel = rooted(type, all(before, label("b"), pointer(start)));
             readDue("behind a label in data of " + type, behindLabel, 3, start + 2);
-            // That byte is a 0, or the length of the data as that of a label, behind which the next record's name is the 0.
+            // That byte is a 0; or it is the length of the data, as that of a label, and the next record's name is the 0.
             byte[] row = all(head(0, 0, 0, 1, 1, 0), entry(ROOT, type, 1, 1, all(before, pointer(start - 1))),
                     entry(ROOT, 99, 1, 1, bytes()));
             WireMessages x = readGood("to the byte before it in data of " + type, row);
@@ -317,7 +317,8 @@ public final class ReadingTest extends Bench {
             boolean good = size + 2 <= 255;
             readDue(size + " and two bytes", all(front, label("a"), pointer(12), FIXED), good ? 0 : 4, good ? -1 : start);
             good = size + 3 <= 255;
-            readDue(size + " and three bytes", all(front, label("ab"), pointer(12), FIXED), good ? 0 : 4, good ? -1 : start);
+            byte[] longer = all(front, label("ab"), pointer(12), FIXED);
+            readDue(size + " and three bytes", longer, good ? 0 : 4, good ? -1 : start);
         }
         byte[] full = asking(nameOf(255, 'n'), FIXED);
         full[12 + 254] = (byte) 192;
@@ -343,7 +344,8 @@ public final class ReadingTest extends Bench {
     private static void sizeDue(int type, byte[] data, boolean good) {
         String what = "type " + type + " with " + data.length + " bytes";
         readDue(what, rooted(type, data), good ? 0 : 5, good ? -1 : DATA);
-        readDue(what + ", bytes behind", rooted(type, data, filled(40, 0)), good ? 6 : 5, good ? DATA + data.length : DATA);
+        byte[] longer = rooted(type, data, filled(40, 0));
+        readDue(what + ", bytes behind", longer, good ? 6 : 5, good ? DATA + data.length : DATA);
     }
 
     private static void fixedData() {
@@ -370,7 +372,8 @@ public final class ReadingTest extends Bench {
                 sizeDue(type, filled(size, 0), false);
             }
         }
-        byte[] row = all(head(0, 0, 1, 1, 0, 0), asked(name("a"), 1, 1), entry(ROOT, 2, 1, 1, all(pointer(12), bytes(0))));
+        byte[] row = all(head(0, 0, 1, 1, 0, 0), asked(name("a"), 1, 1),
+                entry(ROOT, 2, 1, 1, all(pointer(12), bytes(0))));
         readDue("a byte left behind a pointer", row, 5, 30);
     }
 
@@ -483,6 +486,7 @@ public final class ReadingTest extends Bench {
             readDue("a pointer behind it", rooted(type, one, pointer(0)), 5, DATA);
             readDue("a pointer behind it that leads forward", rooted(type, one, pointer(9999)), 5, DATA);
             readDue("half a pointer behind it", rooted(type, all(one, bytes(192)), bytes(0)), 5, DATA);
+            readDue("half a pointer behind it that leads forward", rooted(type, all(one, bytes(255)), bytes(0)), 5, DATA);
             readDue("half a pointer behind the MESSAGE", rooted(type, all(one, bytes(192))), 1, end);
             readDue("a bad length byte behind it", rooted(type, one, bytes(64)), 2, end);
         }
@@ -516,7 +520,8 @@ public final class ReadingTest extends Bench {
         for (int behind = 0; behind <= 12; behind++) {
             int fault = behind == 0 ? 0 : 6;
             readDue("the header and " + behind, all(new byte[12], filled(behind, 0)), fault, behind == 0 ? -1 : 12);
-            readDue("a question and " + behind, asking(name("a"), FIXED, filled(behind, 0)), fault, behind == 0 ? -1 : 19);
+            byte[] question = asking(name("a"), FIXED, filled(behind, 0));
+            readDue("a question and " + behind, question, fault, behind == 0 ? -1 : 19);
             readDue("a record and " + behind, rooted(1, FOUR, filled(behind, 0)), fault, behind == 0 ? -1 : 27);
         }
     }
@@ -600,7 +605,7 @@ public final class ReadingTest extends Bench {
         byte[][] rows = {filled(11, 1), all(head(9, 9, 2, 0, 0, 0), asked(name("a"), 1, 1), bytes(64)),
             all(head(9, 9, 2, 0, 0, 0), asked(name("a"), 1, 1), pointer(19)),
             all(head(9, 9, 2, 0, 0, 0), asked(name("a"), 1, 1), nameOf(256, 'x')),
-            all(head(9, 9, 1, 2, 0, 0), asked(name("a"), 1, 1), entry(ROOT, 1, 1, 1, FOUR), entry(ROOT, 1, 1, 1, bytes())),
+            all(head(9, 9, 0, 2, 0, 0), entry(ROOT, 1, 1, 1, FOUR), entry(ROOT, 1, 1, 1, bytes())),
             all(head(9, 9, 1, 1, 0, 0), asked(name("a"), 1, 1), entry(ROOT, 1, 1, 1, FOUR), bytes(0)),
             all(head(9, 9, 101, 0, 0, 0), new byte[505])};
         for (int fault = 1; fault <= 7; fault++) {
@@ -652,9 +657,15 @@ public final class ReadingTest extends Bench {
         lay(x, three);
         due("reading", x.read(), 0);
         due("four are followed", x.count(3), 4);
-        lay(x, all(three, bytes(0)));
+        lay(x, all(head(0, 0, 1, 0, 0, 0), pointer(0), FIXED, bytes(0)));
         due("reading with a fault", x.read(), 6);
         due("the last one without", x.count(3), 4);
+        lay(x, all(head(0, 0, 1, 0, 0, 0), pointer(0), FIXED));
+        due("reading with one", x.read(), 0);
+        due("one is followed", x.count(3), 1);
+        lay(x, three);
+        due("reading again", x.read(), 0);
+        due("four are followed again", x.count(3), 4);
         lay(x, all(label("a"), pointer(0)));
         dueThrow("no name", IllegalArgumentException.class, () -> x.question(1, 1));
         lay(x, all(name("a"), pointer(0)));

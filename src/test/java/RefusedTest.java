@@ -32,6 +32,7 @@ public final class RefusedTest extends Bench {
         recordOfOtherData();
         recordTooManyBytes();
         recordTooMany();
+        theRoomStays();
         writeOtherLimit();
         writeTooLong();
         back();
@@ -281,6 +282,26 @@ public final class RefusedTest extends Bench {
         refused("of no name", () -> withRecords(1000, bytes(1)), ARGUMENT, x -> x.record(1, 99, 1, 1));
         refused("in no section", () -> withRecords(1000, bytes(1)), NO_SUCH, x -> x.record(0, 99, 1, 1));
         due("a question beside 1,000", withRecords(1000, ROOT).question(1, 1), 1);
+    }
+
+    /** What was refused takes nothing of the room for names and data: all of it can still be used. */
+    private static void theRoomStays() {
+        by("1: a call that throws changes nothing");
+        WireMessages x = withBytes(65_533, nameOf(255, 'x'));
+        dueThrow("a question too long", STATE, () -> x.question(1, 1));
+        dueThrow("a record too long", STATE, () -> x.record(1, 99, 1, 1));
+        dueThrow("no data for a name", ARGUMENT, () -> x.record(1, 2, 1, 1));
+        x.end(254);
+        dueThrow("no name", ARGUMENT, () -> x.question(1, 1));
+        dueThrow("no name and data", ARGUMENT, () -> x.record(1, 99, 1, 1));
+        x.end(0);
+        due("a question of 3 bytes", ask(x, name("a"), 1, 1), 2);
+        WireMessages y = withQuestions(100, nameOf(255, 'x'));
+        for (int k = 0; k < 260; k++) {
+            dueThrow("the 101st", STATE, () -> y.question(1, 1));
+        }
+        due("a record of 255 bytes", y.record(1, 99, 1, 1), 1);
+        due("the bytes of its name", y.told(1, 0, 2), 255);
     }
 
     private static void writeOtherLimit() {

@@ -35,9 +35,11 @@ public final class WritingTest extends Bench {
         onlyCutsSetTheFlag();
         countedFromTheBeginning();
         noNamesLeftBehind();
+        otherNamesStay();
         lowestLimit();
         highestLimit();
         whatIsGatheredStays();
+        againAndAgain();
         finish();
     }
 
@@ -548,6 +550,20 @@ public final class WritingTest extends Bench {
         }
     }
 
+    private static void otherNamesStay() {
+        by("What is left out leaves no names behind: but what was written between stays");
+        WireMessages x = new WireMessages();
+        add(x, 3, name("p.q.r"), 99, filled(60, 1));
+        add(x, 3, name("q.r"), 99, bytes());
+        add(x, 3, ROOT, 99, filled(60, 1));
+        add(x, 3, name("r"), 99, bytes());
+        add(x, 3, name("p.q.r"), 99, filled(60, 1));
+        add(x, 3, name("q.r"), 99, bytes());
+        add(x, 3, name("p.q.r"), 99, bytes());
+        writeDue("three left out", x, 12 + 15 + 12 + 12 + 14, 3, headOf(0, 0, 0, 0, 4), gatheredOne(3, name("q.r")),
+                gatheredOne(3, pointer(14)), gatheredOne(3, pointer(12)), gatheredOne(3, all(label("p"), pointer(12))));
+    }
+
     private static void lowestLimit() {
         by("9: with that limit, 12 .. 65,535");
         for (int section = 0; section <= 3; section++) {
@@ -593,6 +609,19 @@ public final class WritingTest extends Bench {
             }
             dueBytes("the record", nameAndData(x, 1, 0), all(name("a"), FOUR));
             due("the TAPE", x.count(0), 3);
+        }
+    }
+
+    private static void againAndAgain() {
+        by("9: What is gathered is WRITTEN: each time from the beginning");
+        WireMessages x = new WireMessages();
+        byte[] most = all(labels("a.".repeat(127)), ROOT);
+        ask(x, most, 1, 1);
+        ask(x, most, 1, 1);
+        for (int k = 0; k < 150; k++) {
+            int limit = k % 2 == 0 ? 512 : 12 + 259;
+            due("written with " + limit, x.write(limit), 12 + 259 + (k % 2 == 0 ? 6 : 0));
+            due("pointers with " + limit, x.count(2), k % 2 == 0 ? 1 : 0);
         }
     }
 }
