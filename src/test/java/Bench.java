@@ -6,6 +6,7 @@ import java.util.Random;
 /** What the tests share: rows of bytes, feeding them, and telling what is not as due. */
 abstract class Bench {
     static final byte[] ROOT = bytes(0);
+    private static final int MOST_TOLD = 100;
     private static int wrong = 0;
     private static String sentence = "";
 
@@ -45,6 +46,9 @@ abstract class Bench {
 
     static void tell(String what) {
         wrong++;
+        if (wrong > MOST_TOLD) {
+            return;
+        }
         System.out.println((sentence.isEmpty() ? "" : "[" + sentence + "] ") + what);
     }
 

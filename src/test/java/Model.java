@@ -65,6 +65,11 @@ final class Model {
         return tape.length;
     }
 
+    /** Makes the tape these bytes, as feeding them does. */
+    void lay(byte[] row) {
+        tape = row.clone();
+    }
+
     int end(int n) {
         if (n < 0 || n > tape.length) {
             throw new IllegalArgumentException();
@@ -461,6 +466,11 @@ final class Model {
             throw new IndexOutOfBoundsException();
         }
         return both[i] & 255;
+    }
+
+    byte[] nameAndData(int section, int k) {
+        Entry entry = one(section, k);
+        return Bench.all(entry.name, entry.data);
     }
 
     private static String lowered(byte[] name) {

@@ -1,5 +1,3 @@
-import java.util.Arrays;
-
 /** Writings (promises 9, 11 and 17): names that share their ends, and the limit. */
 public final class WritingTest extends Bench {
     private static final byte[] FOUR = bytes(1, 2, 3, 4);
@@ -222,7 +220,8 @@ public final class WritingTest extends Bench {
         for (int limit = 12; limit < 300; limit++) {
             WireMessages x = new WireMessages();
             Model model = new Model();
-            layBoth(x, model, row);
+            lay(x, row);
+            model.lay(row);
             due("read", x.read(), model.read());
             int now = limit;
             if (limit < 27) {
@@ -235,24 +234,11 @@ public final class WritingTest extends Bench {
         }
     }
 
-    private static void layBoth(WireMessages x, Model model, byte[] row) {
-        lay(x, row);
-        byte[] longer = Arrays.copyOf(row, (row.length + 19) / 20 * 20);
-        for (int i = 0; i < longer.length; i += 20) {
-            int[] n = new int[5];
-            for (int k = 0; k < 20; k++) {
-                n[k / 4] = n[k / 4] << 8 | longer[i + k] & 255;
-            }
-            model.feed(n[0], n[1], n[2], n[3], n[4]);
-        }
-        model.end(row.length);
-    }
-
     /** Each new object is looked at for so many bytes as its calls allow. */
     private static void longMessage() {
         byte[] row = growing(7, 330);
         Model model = new Model();
-        layBoth(new WireMessages(), model, row);
+        model.lay(row);
         model.read();
         for (int limit : new int[] {65_535, 40_000}) {
             int length = model.write(limit);
