@@ -577,6 +577,7 @@ public final class WireMessages {
             if (sizeBefore + 1 + lead + 1 > MOST_NAME) {
                 return fail(FAULT_NAME, nameStart);
             }
+            // A label has its length before it, so it is the label alone that is not there whole.
             if (behind > tape.length) {
                 return fail(FAULT_SHORT, at + 1);
             }

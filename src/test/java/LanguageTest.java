@@ -9,7 +9,9 @@ import java.nio.file.Path;
 import java.util.ArrayList;
 import java.util.Arrays;
 import java.util.List;
+import java.util.Map;
 import java.util.Set;
+import java.util.TreeMap;
 import java.util.TreeSet;
 import java.util.regex.Matcher;
 import java.util.regex.Pattern;
@@ -23,6 +25,7 @@ public final class LanguageTest extends Bench {
     private static final Set<String> THROWN = Set.of("IllegalStateException", "IllegalArgumentException",
             "IndexOutOfBoundsException", "UnsupportedOperationException", "NoSuchElementException");
     private static final int MOST_LINES = 60;
+    private static final int MOST_DEEP = 8;
 
     private LanguageTest() {
     }
@@ -35,6 +38,7 @@ public final class LanguageTest extends Bench {
         methods(classes);
         words(withoutComments(Files.readString(FILE)));
         methodLengths(Files.readAllLines(FILE));
+        callDepths(classes, withoutComments(Files.readString(FILE)));
         finish();
     }
 
@@ -138,5 +142,39 @@ public final class LanguageTest extends Bench {
                 tell("a method of " + (end - i) + " lines: " + lines.get(i));
             }
         }
+    }
+
+    /** Methods of the same name count as one, so the depth that is found is never too low. */
+    private static void callDepths(List<Class<?>> classes, String text) {
+        by("rules 8 and 11: no recursion; calls go at most eight deep");
+        Map<String, String> bodies = new TreeMap<>();
+        Pattern start = Pattern.compile("\n( +)(?:private|public) [^=;{]*?\\b(\\w+)\\([^=;{]*\\{\n(?s:(.*?))\n\\1\\}");
+        Matcher found = start.matcher(text);
+        while (found.find()) {
+            bodies.merge(found.group(2), found.group(3), (one, other) -> one + other);
+        }
+        for (Class<?> one : classes) {
+            for (Method method : one.getDeclaredMethods()) {
+                if (!bodies.containsKey(method.getName())) {
+                    tell("not found in the file: " + method);
+                }
+            }
+        }
+        for (String name : bodies.keySet()) {
+            if (depthOf(name, bodies, MOST_DEEP) > MOST_DEEP) {
+                tell("calls go more than " + MOST_DEEP + " deep from " + name);
+            }
+        }
+    }
+
+    private static int depthOf(String name, Map<String, String> bodies, int left) {
+        int deepest = 0;
+        Matcher call = Pattern.compile("\\b(\\w+)\\(").matcher(bodies.get(name));
+        while (call.find() && left > 0) {
+            if (bodies.containsKey(call.group(1))) {
+                deepest = Math.max(deepest, depthOf(call.group(1), bodies, left - 1));
+            }
+        }
+        return left == 0 ? MOST_DEEP + 1 : 1 + deepest;
     }
 }

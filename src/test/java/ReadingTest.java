@@ -24,6 +24,7 @@ public final class ReadingTest extends Bench {
         pointersBeforeTheirName();
         pointersInData();
         pointersBeforeOneAnother();
+        pointersInALongRow();
         pointersInOnePlaceAlone();
         pointersToHighPlaces();
         longNames();
@@ -251,6 +252,21 @@ public final class ReadingTest extends Bench {
         readDue("in a ring", row, 3, DATA + 1);
     }
 
+    /** As many as an object can be fed with its calls. */
+    private static void pointersInALongRow() {
+        by("3: .. each further one of the same name to one before the place that the one before it led to");
+        int most = 4_880;
+        byte[] blob = new byte[1 + 2 * most];
+        for (int k = 0; k < most; k++) {
+            System.arraycopy(pointer(k == 0 ? DATA : DATA + 2 * k - 1), 0, blob, 1 + 2 * k, 2);
+        }
+        WireMessages x = readGood("a long row", through(blob, DATA + 2 * most - 1));
+        due("a long row: followed", x.count(3), most + 1);
+        dueBytes("a long row: the name", nameAndData(x, 1, 1), ROOT);
+        System.arraycopy(pointer(DATA + 1), 0, blob, 1, 2);
+        readDue("the last one to itself", through(blob, DATA + 2 * most - 1), 3, DATA + 1);
+    }
+
     private static void pointersInOnePlaceAlone() {
         by("3: .. of the same name: the next name is not bound by it");
         byte[] row = all(head(0, 0, 3, 0, 0, 0), asked(name("a.b"), 1, 1), asked(pointer(12), 1, 1),
@@ -335,6 +351,10 @@ public final class ReadingTest extends Bench {
         readDue("a bad length byte is told as such", asking(three, bytes(64)), 2, 12 + 192);
         readDue("before the label leaves the data", rooted(2, all(three, bytes(62)), filled(99, 0)), 4, DATA);
         readDue("not before it", rooted(2, all(three, bytes(61)), filled(99, 0)), 5, DATA);
+        readDue("behind the data", rooted(2, three, bytes(62), filled(99, 0)), 4, DATA);
+        readDue("behind the data, the last byte", rooted(2, three, bytes(62)), 4, DATA);
+        readDue("one byte less behind the data", rooted(2, three, bytes(61), filled(99, 0)), 5, DATA);
+        readDue("one byte less behind the data, the last byte", rooted(2, three, bytes(61)), 1, DATA + 193);
         byte[] most = labels("a.".repeat(127));
         readDue("127 labels and a length byte", asking(most, bytes(1)), 4, 12);
         readDue("127 labels and no length byte", asking(most), 1, 12 + 254);
@@ -459,6 +479,7 @@ public final class ReadingTest extends Bench {
             readDue("2 behind a pointer", all(head(64, 0, 0, 1, 0, 0),
                     entry(ROOT, type, 1, 1, around(type, all(pointer(1), bytes(0))))), 2, 1);
         }
+        faultsBehindPointers();
         by("In data, faults 1 to 4 of names are told as such, before 5: also where no POINTER may be");
         readDue("33: a pointer forward", rooted(33, around(33, pointer(500))), 3, DATA + 6);
         readDue("33: a pointer to its name", rooted(33, around(33, pointer(DATA + 6))), 3, DATA + 6);
@@ -468,6 +489,27 @@ public final class ReadingTest extends Bench {
         by("5: bytes too few before the name");
         readDue("15", rooted(15, bytes(64)), 5, DATA);
         readDue("33", rooted(33, filled(5, 64)), 5, DATA);
+    }
+
+    /** The data has a byte too much, and in 33 the POINTER itself is one where none may be: both would be 5. */
+    private static void faultsBehindPointers() {
+        by("In data, faults 1 to 4 of names are told as such, before 5: also behind a POINTER");
+        byte[] front = asked(nameOf(255, 'n'), 1, 1);
+        for (int type : ONE_NAME) {
+            byte[] data = around(type, all(pointer(0), bytes(0)));
+            byte[] one = entry(ROOT, type, 1, 1, data);
+            readDue("1: a label", all(head(0x3F00, 0, 0, 1, 0, 0), one), 1, 1);
+            int end = 12 + one.length;
+            readDue("1: a length byte", all(head((end - 1) << 8, 0, 0, 1, 0, 0), one), 1, end);
+            readDue("the length byte is there", all(head((end - 2) << 8, 0, 0, 1, 0, 0), one), 5, DATA);
+            readDue("2", all(head(0x8000, 0, 0, 1, 0, 0), one), 2, 0);
+            readDue("3", all(head(0xC000, 0, 0, 1, 0, 0), one), 3, 0);
+            byte[] longer = entry(ROOT, type, 1, 1, around(type, all(label("a"), pointer(12), bytes(0))));
+            int start = 12 + front.length + 11 + bytesBefore(type);
+            readDue("4", all(head(0, 0, 1, 1, 0, 0), front, longer), 4, start);
+            byte[] whole = entry(ROOT, type, 1, 1, around(type, all(pointer(12), bytes(0))));
+            readDue("none of them", all(head(0, 0, 1, 1, 0, 0), front, whole), 5, 12 + front.length + 11);
+        }
     }
 
     private static void namesThatLeaveData() {

@@ -22,6 +22,7 @@ public final class WritingTest extends Bench {
         wholeButForAnEnd();
         longestEnd();
         letterCase();
+        endsThatGoOn();
         endsOfNamesAlone();
         labelsBeforePointers();
         firstPlace();
@@ -311,6 +312,15 @@ public final class WritingTest extends Bench {
         ownersDue(owning("a.b", "A.b", "a.B", "a.b"), 2, name("a.b"), all(label("A"), pointer(14)), name("a.B"),
                 pointer(12));
         ownersDue(owning("Z", "z", "Z", "z"), 2, name("Z"), name("z"), pointer(12), pointer(29));
+    }
+
+    /** The mark of bebzfjf in the table of ends is 0, so that a and a.bebzfjf have the same one. */
+    private static void endsThatGoOn() {
+        by(".. byte for byte: also the 0 at the end");
+        ownersDue(owning("a.bebzfjf", "a", "a.bebzfjf", "a", "bebzfjf"), 3, name("a.bebzfjf"), name("a"), pointer(12),
+                pointer(37), pointer(14));
+        ownersDue(owning("a", "a.bebzfjf", "a", "a.bebzfjf"), 2, name("a"), name("a.bebzfjf"), pointer(12),
+                pointer(29));
     }
 
     private static void endsOfNamesAlone() {
