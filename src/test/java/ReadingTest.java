@@ -742,5 +742,26 @@ public final class ReadingTest extends Bench {
         x.end(65_535);
         due("one byte less", x.read(), 1);
         due("where the data began", x.faultAt(), 65_536 - 9);
+        endsOfFullTapes(x);
+    }
+
+    /** With the MESSAGE of 65,516 bytes: the last twenty bytes of a full TAPE are a name that is not there whole. */
+    private static void endsOfFullTapes(WireMessages x) {
+        by("1: the MESSAGE ends too early, where the TAPE has no room behind it");
+        int[][] names = {{18, 192, 65_535}, {18, 255, 65_535}, {18, 1, 65_536}, {19, 0, 65_536}, {20, 0, 65_517}};
+        for (int[] one : names) {
+            x.back(7, 245 ^ 246);
+            due("full", x.feed(one[0] << 24, 0, 0, 0, one[1]), 65_536);
+            due("a label of " + one[0] + " and the byte " + one[1], x.read(), 1);
+            due("its place", x.faultAt(), one[2]);
+        }
+        by("5: data at the end of a full TAPE");
+        int[][] strings = {{8, 0}, {9, 5}, {255, 5}};
+        for (int[] one : strings) {
+            x.back(7, 245 ^ 246);
+            due("full", x.feed(16 << 8, 0, 0x0900 | one[0], 0, 0), 65_536);
+            due("a string of " + one[0] + " in nine bytes", x.read(), one[1]);
+            due("its place", x.faultAt(), one[1] == 0 ? -1 : 65_527);
+        }
     }
 }
